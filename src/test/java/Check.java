@@ -22,6 +22,10 @@ final class Check {
     tell(call, got == want, "answered " + got + ", due is " + want);
   }
 
+  void due(String call, String want, String got) {
+    tell(call, got.equals(want), "answered " + got + ", due is " + want);
+  }
+
   void due(String call, double want, double got) {
     tell(call, Double.compare(got, want) == 0, "answered " + got + ", due is " + want);
   }
