@@ -74,7 +74,7 @@ public final class TallowIndex {
     if (document == null) throw new IllegalStateException("no text is open");
     Text text = document.text;
     if (text.count >= MOST_WORDS) throw new IllegalStateException("the text is full");
-    text.put(word, text.count, text.count);
+    text.append(word, text.count, text.count);
     return text.count;
   }
 
@@ -132,7 +132,7 @@ public final class TallowIndex {
 
   public int commit() {
     shelf.writeBuffer();
-    committed.copyFrom(shelf);
+    committed.takeOver(shelf);
     commits++;
     return commits;
   }
@@ -396,7 +396,7 @@ public final class TallowIndex {
     private final Row indexes = new Row(MOST_PLACED);
     private int count;
 
-    void put(int word, int place, int index) {
+    void append(int word, int place, int index) {
       if (count >= MOST_PLACED) return;
       words.put(count, word);
       places.put(count, place);
@@ -440,7 +440,7 @@ public final class TallowIndex {
       int before = count;
       for (int i = 0; i < before; i++) {
         int place = places.get(i);
-        if (words.get(i) == word && timesAt(place, other) == 0) put(other, place, firstIndexAt(place, word));
+        if (words.get(i) == word && timesAt(place, other) == 0) append(other, place, firstIndexAt(place, word));
       }
     }
 
@@ -599,7 +599,7 @@ public final class TallowIndex {
       segmentCount -= by;
     }
 
-    void copyFrom(Shelf other) {
+    void takeOver(Shelf other) {
       states.copyFrom(other.states);
       homes.copyFrom(other.homes);
       documentCount = other.documentCount;
@@ -702,10 +702,10 @@ public final class TallowIndex {
       return !canJoin(kind);
     }
 
-    void nameParts(Row parts, boolean onlyMarking) {
+    void nameParts(Row parts, boolean isForMarks) {
       if (isOfWords()) return;
       parts.put(first, 1);
-      if (kind != 'x' || !onlyMarking) parts.put(second, 1);
+      if (kind != 'x' || !isForMarks) parts.put(second, 1);
     }
 
     int timesIn(Text text) {
@@ -807,11 +807,11 @@ public final class TallowIndex {
     }
 
     /** A query is made of earlier ones alone, so that one way down the numbers meets all its parts. */
-    private void gatherParts(ArrayList<Query> queries, int query, boolean onlyMarking) {
+    private void gatherParts(ArrayList<Query> queries, int query, boolean isForMarks) {
       parts.fill(0);
       parts.put(query, 1);
       for (int part = query; part >= 0; part--) {
-        if (parts.get(part) == 1 && part < queries.size()) queries.get(part).nameParts(parts, onlyMarking);
+        if (parts.get(part) == 1 && part < queries.size()) queries.get(part).nameParts(parts, isForMarks);
       }
     }
 

@@ -30,15 +30,24 @@ final class Check {
     tell(call, Double.compare(got, want) == 0, "answered " + got + ", due is " + want);
   }
 
-  /** The very class is due, none below it: what the machine throws by itself is never an answer. */
+  /** The very class is due, none below it, and from the class's own throw: what others throw is never an answer. */
   void dueThrow(String call, Class<? extends RuntimeException> want, Supplier<Object> made) {
     String got;
     try {
       got = "answered " + made.get();
     } catch (RuntimeException e) {
-      got = e.getClass() == want ? null : "threw " + e.getClass().getName();
+      got = e.getClass() == want && isOwnThrow(e) ? null : "threw " + thrown(e);
     }
     tell(call, got == null, got + ", due is a throw of " + want.getName());
+  }
+
+  static String thrown(Throwable e) {
+    return e.getClass().getName() + (isOwnThrow(e) ? "" : " at " + e.getStackTrace()[0]);
+  }
+
+  private static boolean isOwnThrow(Throwable e) {
+    StackTraceElement[] trace = e.getStackTrace();
+    return trace.length == 0 || trace[0].getClassName().matches("TallowIndex.*|Model");
   }
 
   void tell(String call, boolean isRight, String otherwise) {

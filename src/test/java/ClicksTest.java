@@ -34,7 +34,8 @@ public final class ClicksTest {
   }
 
   private static void turnedCouplesAreCounted() {
-    TallowIndex x = Store.of(Store.words(1), Store.words(1, 2), Store.words(1, 2, 2), Store.words(1, 2, 2), Store.words(2));
+    int[] longest = Store.words(1, 2, 2);
+    TallowIndex x = Store.of(Store.words(1), Store.words(1, 2), longest, longest, Store.words(2));
     x.ask('w', 1, 0, 0, 1);
     // Of five, four match: 0 scores 600 / (5 * 5) = 24, 1 scores 20, 2 and 3 score 17.
     check.due("turned without clicks", 0, x.turned(0, 0));

@@ -37,6 +37,9 @@ public final class GroupsTest {
     for (int i = 0; i < 99; i++) x.click(1);
     x.setBound(99);
     check.due("firstTagged 5 by the rank", 1, x.firstTagged(0, 0, 5));
+    x.ask('p', 1, 2, 0, 1);
+    x.hits(0, 0);
+    check.due("tagged 5 of fewer hits than ahead", 1, x.tagged(0, 1, 5));
   }
 
   private static void tagsRefuse() {

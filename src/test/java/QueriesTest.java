@@ -16,6 +16,8 @@ public final class QueriesTest {
     joinsMatchAndScore();
     scoresAreRoundedDownAheadOfTheWeight();
     scoresCountTheViewAlone();
+    joinIsScoredFromAllItsParts();
+    allDocumentsAreScored();
     hitsGoByRanksThenNumbers();
     queriesGoThroughNoSteps();
     hitsRefuse();
@@ -71,7 +73,8 @@ public final class QueriesTest {
     check.dueThrow("a 41st of words", IllegalStateException.class, () -> x.ask('w', 1, 0, 0, 1));
     check.dueThrow("a 41st, wrong one of words", IllegalArgumentException.class, () -> x.ask('w', 60, 0, 0, 1));
     check.dueThrow("a 41st of two", IllegalStateException.class, () -> x.join('a', 0, 0));
-    check.dueThrow("a 41st, wrong one of two", IndexOutOfBoundsException.class, () -> x.join('a', 0, 40));
+    check.dueThrow("a 41st, wrong second", IndexOutOfBoundsException.class, () -> x.join('a', 0, 40));
+    check.dueThrow("a 41st, wrong first", IndexOutOfBoundsException.class, () -> x.join('a', 40, 0));
     x.openView();
     check.due("hits of the last query", 0, x.hits(0, 39));
   }
@@ -212,8 +215,35 @@ public final class QueriesTest {
     check.due("the first view stays", 26, x.score(0, 0, 0));
   }
 
+  private static void joinIsScoredFromAllItsParts() {
+    TallowIndex x = Store.of(Store.words(1), Store.words(1, 2));
+    x.ask('w', 1, 0, 0, 1);
+    x.ask('w', 2, 0, 0, 1);
+    x.join('x', 0, 1);
+    dueHits(x, 2, "0");
+    x.openView();
+    check.due("in another view", 1, x.hits(1, 2));
+  }
+
+  private static void allDocumentsAreScored() {
+    TallowIndex x = new TallowIndex();
+    for (int i = 0; i < 29; i++) Store.put(x, 1);
+    Store.put(x, 2);
+    x.write();
+    x.openView();
+    x.ask('w', 2, 0, 0, 1);
+    x.ask('w', 1, 0, 0, 1);
+    x.join('o', 0, 1);
+    check.due("hits of all 30", 30, x.hits(0, 2));
+    check.due("the rarer word is first", 29, x.hit(0, 2, 0));
+    check.due("its score: 100 * 31 / (2 * 5)", 310, x.score(0, 2, 0));
+    check.due("the last hit", 28, x.hit(0, 2, 29));
+    check.due("hits of the rarer word", 1, x.hits(0, 0));
+  }
+
   private static void hitsGoByRanksThenNumbers() {
-    TallowIndex x = Store.of(Store.words(1, 2, 3), Store.words(1), Store.words(1, 1, 2), Store.words(1), Store.words(1));
+    int[] one = Store.words(1);
+    TallowIndex x = Store.of(Store.words(1, 2, 3), one, Store.words(1, 1, 2), one, one);
     x.ask('w', 1, 0, 0, 1);
     dueHits(x, 0, "2 1 3 4 0");
     for (int i = 0; i < 9; i++) x.click(4);

@@ -121,7 +121,7 @@ public final class RandomRunsTest {
     try {
       return String.valueOf(method.invoke(object, arguments));
     } catch (InvocationTargetException e) {
-      return "throws " + e.getCause().getClass().getName();
+      return "throws " + Check.thrown(e.getCause());
     }
   }
 

@@ -82,9 +82,9 @@ public final class StepsTest {
   private static void evenTakesOne() {
     TallowIndex x = new TallowIndex();
     x.addStep('m', 0, 0);
-    Store.put(x, 0, 1, 58, 59);
-    check.due("m: 0 stays", 1, x.standing(0, 0, 0));
-    check.due("m: 1 becomes 0", 1, x.standing(0, 1, 0));
+    Store.put(x, 1, 0, 58, 59);
+    check.due("m: 1 becomes 0", 1, x.standing(0, 0, 0));
+    check.due("m: 0 stays", 1, x.standing(0, 1, 0));
     check.due("m: 58 stays", 1, x.standing(0, 2, 58));
     check.due("m: 59 becomes 58", 1, x.standing(0, 3, 58));
   }
@@ -124,6 +124,9 @@ public final class StepsTest {
     check.due("c twice: what stood beside stays at 0", 1, x.standing(0, 0, 6));
     check.due("c twice: 7 goes to -1", 1, x.standing(0, -1, 7));
     check.due("c twice: 8 goes to 0", 1, x.standing(0, 0, 8));
+    x.addStep('c', 7, 0);
+    Store.put(x, 8, 5, 5, 7);
+    check.due("c again: 7 had gone from 3 to -1, ahead of the first word", 1, x.standing(1, -1, 8));
   }
 
   private static void anotherWordIsPutBeside() {
