@@ -202,11 +202,15 @@ public final class TallowIndex {
   }
 
   public int hit(int view, int query, int index) throws IndexOutOfBoundsException, NoSuchElementException {
-    return hitNumbered(view, query, index);
+    find(view, query);
+    checkHit(index);
+    return search.hitAt(index);
   }
 
   public long score(int view, int query, int index) throws IndexOutOfBoundsException, NoSuchElementException {
-    return search.scoreOf(hitNumbered(view, query, index));
+    find(view, query);
+    checkHit(index);
+    return search.scoreOf(search.hitAt(index));
   }
 
   public long scoreAlone(int view, int query, int document) throws IndexOutOfBoundsException {
@@ -344,10 +348,8 @@ public final class TallowIndex {
     return from;
   }
 
-  private int hitNumbered(int view, int query, int index) {
-    find(view, query);
+  private void checkHit(int index) {
     if (index < 0 || index >= search.found) throw new NoSuchElementException("no such hit");
-    return search.hitAt(index);
   }
 
   private int tagOf(int document) {

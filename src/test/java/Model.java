@@ -312,7 +312,8 @@ final class Model {
     isQuery(query);
     List<Integer> found = new ArrayList<>();
     for (int d : seen) if (scored(seen, query, d) != null) found.add(d);
-    Comparator<Integer> byRank = Comparator.comparing(d -> scored(seen, query, d) + Math.min(docs.get(d).clicks, bound));
+    Comparator<Integer> byRank =
+        Comparator.comparing(d -> scored(seen, query, d) + Math.min(docs.get(d).clicks, bound));
     found.sort(byRank.reversed().thenComparing(d -> d));
     return found;
   }

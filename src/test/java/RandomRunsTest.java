@@ -1,5 +1,3 @@
-import java.lang.reflect.InvocationTargetException;
-import java.lang.reflect.Method;
 import java.util.ArrayList;
 import java.util.List;
 import java.util.Random;
@@ -7,7 +5,6 @@ import java.util.Random;
 /** Runs of 512 calls, the same ones on each machine, on the class and on the model: each answer must be the same. */
 public final class RandomRunsTest {
   private static final int RUNS = 400;
-  private static final int CALLS = 512;
   private static final int CALLS_THAT_FILL = 200;
 
   /** Name, what each argument is, and how often the call comes while a run fills the index, and later on. */
@@ -24,20 +21,16 @@ public final class RandomRunsTest {
 
   private final Random random;
   private final int words;
-  private final TallowIndex index = new TallowIndex();
-  private final Model model = new Model();
+  private final Calls index = new Calls(new TallowIndex());
+  private final Calls model = new Calls(new Model());
   private final List<String> told = new ArrayList<>();
-  private final List<Integer> views = new ArrayList<>();
-  private boolean isTextOpen;
-  private int documents;
-  private int queries;
 
   private RandomRunsTest(int seed) {
     random = new Random(seed);
     words = 2 + seed % 5;
   }
 
-  public static void main(String[] args) throws ReflectiveOperationException {
+  public static void main(String[] args) {
     Check check = new Check("RandomRunsTest");
     for (int seed = 0; seed < RUNS; seed++) {
       String difference = new RandomRunsTest(seed).run();
@@ -46,16 +39,14 @@ public final class RandomRunsTest {
     check.end();
   }
 
-  private String run() throws ReflectiveOperationException {
-    for (int i = 0; i < CALLS; i++) {
+  private String run() {
+    for (int i = 0; i < Calls.MOST; i++) {
       String[] call = pick(i < CALLS_THAT_FILL);
       Object[] arguments = arguments(call[1]);
-      Method method = faceMethod(call[0]);
-      String got = answer(index, method, arguments);
-      String want = answer(model, method, arguments);
+      String got = index.answer(call[0], arguments);
+      String want = model.answer(call[0], arguments);
       told.add(call[0] + List.of(arguments) + " " + got);
       if (!got.equals(want)) return "differs, due is " + want + ", after " + told;
-      keepCount(call[0], arguments, want);
     }
     return null;
   }
@@ -73,7 +64,7 @@ public final class RandomRunsTest {
   }
 
   private String pickOfText() {
-    if (!isTextOpen) return "open th";
+    if (!model.isTextOpen) return "open th";
     return random.nextInt(6) == 0 ? "close -" : "addWord w";
   }
 
@@ -95,12 +86,12 @@ public final class RandomRunsTest {
     if (random.nextInt(60) == 0) return WILD[random.nextInt(WILD.length)];
     if (kind == 'w') return random.nextInt(words) + (random.nextInt(4) == 0 ? 30 : 0);
     if (kind == 't') return random.nextInt(3) * 5 / 2;
-    if (kind == 'h') return random.nextInt(documents + 1) - 1;
-    if (kind == 'd') return random.nextInt(documents + 1);
+    if (kind == 'h') return random.nextInt(model.documents + 1) - 1;
+    if (kind == 'd') return random.nextInt(model.documents + 1);
     if (kind == 'p') return random.nextInt(15) - 2;
     if (kind == 'g') return random.nextInt(5);
-    if (kind == 'v') return views.isEmpty() || random.nextInt(20) == 0 ? random.nextInt(9) : oneOf(views);
-    if (kind == 'q') return random.nextInt(queries + 1);
+    if (kind == 'v') return model.views.isEmpty() || random.nextInt(20) == 0 ? random.nextInt(9) : oneOf(model.views);
+    if (kind == 'q') return random.nextInt(model.queries + 1);
     if (kind == 'i') return random.nextInt(6);
     if (kind == 'x') return random.nextInt(10);
     if (kind == 'y') return 1 + random.nextInt(9);
@@ -114,32 +105,5 @@ public final class RandomRunsTest {
 
   private char letter(String usual) {
     return random.nextInt(60) == 0 ? (char) random.nextInt(256) : usual.charAt(random.nextInt(usual.length()));
-  }
-
-  private static String answer(Object object, Method call, Object[] arguments) throws ReflectiveOperationException {
-    Method method = object.getClass().getDeclaredMethod(call.getName(), call.getParameterTypes());
-    try {
-      return String.valueOf(method.invoke(object, arguments));
-    } catch (InvocationTargetException e) {
-      return "throws " + Check.thrown(e.getCause());
-    }
-  }
-
-  private static Method faceMethod(String name) {
-    for (Method method : TallowIndex.class.getMethods()) {
-      if (method.getDeclaringClass() == TallowIndex.class && method.getName().equals(name)) return method;
-    }
-    throw new AssertionError(name);
-  }
-
-  private void keepCount(String name, Object[] arguments, String answer) {
-    if (answer.startsWith("throws")) return;
-    if (name.equals("open")) isTextOpen = true;
-    if (name.equals("close") || name.equals("crash")) isTextOpen = false;
-    if (name.equals("close")) documents = Integer.parseInt(answer) + 1;
-    if (name.equals("openView")) views.add(Integer.parseInt(answer));
-    if (name.equals("closeView")) views.remove(arguments[0]);
-    if (name.equals("crash")) views.clear();
-    if (name.equals("ask") || name.equals("join")) queries = Integer.parseInt(answer) + 1;
   }
 }
